@@ -775,7 +775,7 @@ public final class TripleWays {
             return best;
         }
 
-        /** The least cost by a kept order that gives the answers sorted by the component; NONE without such an order. */
+        /** The least cost by a kept order that sorts the answers by the component; NONE without such an order. */
         int costSortedBy(int question, int component) {
             int least = NONE;
             for (int q = 0; q < ORDERS; q++) {
@@ -962,7 +962,7 @@ public final class TripleWays {
             return place >= 0 && place < costs.length ? costs[place] : fullWalk;
         }
 
-        /** The gain and the loss alike are what the questions cost without the order less what they cost with it, less its upkeep. */
+        /** Gain and loss alike: what the questions cost without the order less what they cost with it, less its upkeep. */
         int worth(int q) {
             int bit = 1 << q;
             return costWith(kept & ~bit) - costWith(kept | bit) - upkeep;

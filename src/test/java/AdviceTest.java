@@ -85,6 +85,17 @@ public final class AdviceTest {
         x.drop(1);
         Check.same("a loss of 11 - 10", x.value(3), 1);
         Check.same("spare", x.spare(), -1);
+        TripleWays y = Check.with(111, 222, 333, 444);
+        y.setWeight(0);
+        ask(y, "*5*");
+        Check.same("a gain of 1", y.value(2), 1);
+        Check.same("a gain of 1 is advised", y.advised(), 2);
+        y.build(2);
+        y.drop(0);
+        y.setWeight(1);
+        ask(y, "*5*", "*5*");
+        Check.same("a loss of 3 - 4", y.value(2), -1);
+        Check.same("a loss of -1 is told", y.spare(), 2);
     }
 
     private static void needs() {
@@ -164,6 +175,10 @@ public final class AdviceTest {
         Check.same("each order saves what it costs", x.bestSet(), 0);
         ask(x, "*1*");
         Check.same("bestSet", x.bestSet(), 4);
+        TripleWays y = diagonal();
+        y.setWeight(1);
+        ask(y, "1**", "2**");
+        Check.same("bestSet of 1 and 2 alike", y.bestSet(), 1);
         ask(x, "**2");
         Check.same("bestSet", x.bestSet(), 20);
         x.setWeight(0);

@@ -26,6 +26,11 @@ public final class QuestionTest {
         Check.same("count 12*", x.count(Check.ask("12*")), 2);
         Check.same("count 444", x.count(Check.ask("444")), 1);
         Check.same("count 445", x.count(Check.ask("445")), 0);
+        x.add(0);
+        x.add(900);
+        Check.same("count 000", x.count(0), 1);
+        Check.same("count 900", x.count(Check.ask("900")), 1);
+        Check.same("count 9**", x.count(Check.ask("9**")), 3);
         Check.same("count *** of none", new TripleWays().count(1330), 0);
         Check.same("count 000 of none", new TripleWays().count(0), 0);
         Check.same("counting asks nothing", x.about(5), 0);

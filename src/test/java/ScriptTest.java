@@ -14,6 +14,7 @@ public final class ScriptTest {
         several();
         changesNothing();
         simulations();
+        longSimulation();
         Check.end();
     }
 
@@ -73,6 +74,7 @@ public final class ScriptTest {
         TripleWays x = sample();
         works(x, 30000, true);
         works(x, 31330, true);
+        works(x, 30000 + Check.ask("123"), true);
         works(x, 31331, false);
         works(x, 39999, false);
         Check.same("an asked question costs", x.runScript(2, 3133090009L), 1);
@@ -200,6 +202,22 @@ public final class ScriptTest {
                 }
             }
         }
+    }
+
+    private static void longSimulation() {
+        TripleWays x = new TripleWays();
+        for (int i = 0; i < 40; i++) {
+            x.add(500 + i);
+        }
+        x.drop(0);
+        x.setWeight(99);
+        for (int i = 0; i < 30; i++) {
+            x.ask(1330);
+        }
+        Check.same("no order, more than 999", x.simulate(4, 99), 999);
+        x.build(1);
+        x.build(2);
+        Check.same("one turn, two orders", x.simulate(4, 1), done(x, 4, 1));
     }
 
     private static TripleWays made(int kind) {

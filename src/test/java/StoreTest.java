@@ -119,6 +119,8 @@ public final class StoreTest {
         Check.same("add of one that is there to 40", x.add(960), 0);
         Check.alike("the full store", Check.seen(x), before);
         Check.same("remove", x.remove(999), 1);
+        Check.same("the last one", x.triple(-1, 38), 960);
+        Check.same("the one before", x.triple(-1, 37), 961);
         Check.same("add to 39", x.add(0), 1);
         Check.same("the last one", x.triple(-1, 39), 0);
         Check.same("the first one", x.triple(-1, 0), 998);
