@@ -157,7 +157,8 @@ public final class TripleWays {
         }
         history.push(now);
         int added = 0;
-        for (int k = 0; k < text.countTriples(); k++) {
+        int told = text.countTriples();
+        for (int k = 0; k < told; k++) {
             int triple = text.tripleAt(k);
             if (now.canPut(triple)) {
                 added += now.put(triple);

@@ -116,7 +116,7 @@ public final class AdviceTest {
         need(17, "11*", "**1");
         need(11, "1*1", "11*", "*11");
         need(11, "11*", "1*1", "*11", "1**", "*1*");
-        need(14, "11*", "1*1", "*11", "*1*", "**1", "1**");
+        need(25, "11*", "1*1", "*11", "*1*", "**1", "1**");
     }
 
     /** Tells by the reaches alone what is due, beside the number that the test names. */
@@ -125,17 +125,16 @@ public final class AdviceTest {
         ask(x, asked);
         int due = -1;
         for (int set = 63; set >= 0; set--) {
-            if (fits(x, set, asked) && (due == -1 || Integer.bitCount(set) <= Integer.bitCount(due))) {
+            if (fits(set, asked) && (due == -1 || Integer.bitCount(set) <= Integer.bitCount(due))) {
                 due = set;
             }
         }
         Check.same("needed, " + String.join(" ", asked), x.needed(), due);
-        if (asked.length < 6) {
-            Check.same("needed, named, " + String.join(" ", asked), x.needed(), named);
-        }
+        Check.same("needed, named, " + String.join(" ", asked), x.needed(), named);
     }
 
-    private static boolean fits(TripleWays x, int set, String... asked) {
+    private static boolean fits(int set, String... asked) {
+        TripleWays x = new TripleWays();
         for (String question : asked) {
             int bound = question.replace("*", "").length();
             boolean found = false;

@@ -68,7 +68,29 @@ public final class FaceTest {
         int modifiers = TripleWays.class.getModifiers();
         Check.same("the class is public and final", Modifier.isPublic(modifiers) && Modifier.isFinal(modifiers) ? 1 : 0, 1);
         Check.same("NONE", TripleWays.NONE, -1);
+        classesInside();
+        namesOfPrivateMethods();
         Check.end();
+    }
+
+    private static void classesInside() {
+        for (Class<?> inside : TripleWays.class.getDeclaredClasses()) {
+            int modifiers = inside.getModifiers();
+            boolean seen = Modifier.isPublic(modifiers) || Modifier.isProtected(modifiers);
+            Check.same(inside.getSimpleName() + " is public or protected", seen ? 1 : 0, 0);
+            Check.same(inside.getSimpleName() + " is static", Modifier.isStatic(modifiers) ? 1 : 0, 1);
+        }
+    }
+
+    private static void namesOfPrivateMethods() {
+        TreeSet<String> names = new TreeSet<>();
+        for (String told : DUE) {
+            names.add(told.substring(0, told.indexOf('(')));
+        }
+        for (Method method : TripleWays.class.getDeclaredMethods()) {
+            boolean twice = Modifier.isPrivate(method.getModifiers()) && names.contains(method.getName());
+            Check.same("a private method bears the public name " + method.getName(), twice ? 1 : 0, 0);
+        }
     }
 
     private static String told(Method method) {

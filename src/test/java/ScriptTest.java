@@ -198,7 +198,7 @@ public final class ScriptTest {
             for (long seed : seeds) {
                 for (int m : new int[] {1, 2, 7, 30, 80, 99}) {
                     Check.same("simulate(" + seed + ", " + m + ") of kind " + kind,
-                        made(kind).simulate(seed, m), done(made(kind), seed, m));
+                        made(kind).simulate(seed, m), Turns.done(made(kind), seed, m));
                 }
             }
         }
@@ -217,7 +217,7 @@ public final class ScriptTest {
         Check.same("no order, more than 999", x.simulate(4, 99), 999);
         x.build(1);
         x.build(2);
-        Check.same("one turn, two orders", x.simulate(4, 1), done(x, 4, 1));
+        Check.same("one turn, two orders", x.simulate(4, 1), Turns.done(x, 4, 1));
     }
 
     private static TripleWays made(int kind) {
@@ -232,39 +232,5 @@ public final class ScriptTest {
             x.build(4);
         }
         return x;
-    }
-
-    private static int done(TripleWays x, long seed, int m) {
-        int before = x.about(4);
-        long state = seed;
-        for (int turn = 0; turn < m; turn++) {
-            state = state * 6364136223846793005L + 1442695040888963407L;
-            int r = (int) (state >>> 33);
-            int t = 100 * (r / 16 % 4) + 10 * (r / 64 % 4) + r / 256 % 4;
-            switch (r % 16) {
-                case 0: case 1: case 2: case 3: case 4:
-                    try {
-                        x.add(t);
-                    } catch (IllegalStateException e) {
-                        // It is left out.
-                    }
-                    break;
-                case 5:
-                    x.remove(t);
-                    break;
-                case 14: case 15:
-                    x.tidy();
-                    break;
-                default:
-                    x.ask(121 * digit(r / 16 % 16) + 11 * digit(r / 256 % 16) + digit(r / 4096 % 16));
-                    break;
-            }
-        }
-        int counted = x.about(4) - before;
-        return 1000 * Integer.bitCount(x.about(1)) + (counted > 999 ? 999 : counted);
-    }
-
-    private static int digit(int value) {
-        return value > 10 ? 10 : value;
     }
 }

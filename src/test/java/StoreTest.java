@@ -19,7 +19,7 @@ public final class StoreTest {
     private static void newObject() {
         TripleWays x = new TripleWays();
         Check.alike("a new object", Check.seen(x),
-            "0 1 0 0 0 0 0 0 weight 4 triples" + " -1".repeat(40) + " remembered" + " -1".repeat(12));
+            "0 1 0 0 0 0 0 0 weight 4 triples -1 remembered -1");
         Check.argument("about(-1)", () -> x.about(-1));
         Check.argument("about(8)", () -> x.about(8));
         Check.state("undo() of a new object", x::undo);
